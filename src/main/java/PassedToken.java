@@ -182,7 +182,7 @@ public final class PassedToken {
                 case DONE: held = doneLine(); break;
                 case PASSING: held = passingLine(); break;
                 case LOST: held = lostLine(); break;
-                default: held = pollingLine(told); break;
+                default: held = told == HEARD ? answeredLine() : unansweredLine(told); break;
             }
             told = NOTHING;
         }
@@ -250,16 +250,18 @@ public final class PassedToken {
             if (sole) {
                 mode = USE;
             } else {
-                passAnew();
+                pass(0);
             }
         } else if (behind(polled) != next) {
             poll(behind(polled));
         } else if (sole) {
-            pollBehindNext(1);
+            poll(behind(next));
+            next = own;
+            tokens = 1;
         } else {
             polled = own;
             tokens = 1;
-            passAnew();
+            pass(0);
         }
         return true;
     }
@@ -273,10 +275,11 @@ public final class PassedToken {
             return false;
         }
         if (tries == 0) {
-            tries = 1;
-            pass();
+            pass(1);
         } else {
-            pollBehindNext(0);
+            poll(behind(next));
+            next = own;
+            tokens = 0;
         }
         return true;
     }
@@ -287,44 +290,42 @@ public final class PassedToken {
             return true;
         }
         if (stillness >= TICKS_LOST + TICKS_LOST_EACH * own) {
+            poll(behind(own));
             next = own;
-            pollBehindNext(0);
+            tokens = 0;
             return true;
         }
         return false;
     }
 
-    private boolean pollingLine(int told) {
-        if (told == HEARD) {
-            if (ear.to() == own && ear.type() == TYPE_HERE_I_AM && isOtherStation(ear.from())) {
-                sole = false;
-                next = ear.from();
-                polled = own;
-                tokens = 0;
-                passAnew();
-            } else {
-                mode = IDLE;
-            }
-            return true;
+    private boolean answeredLine() {
+        if (ear.to() == own && ear.type() == TYPE_HERE_I_AM && isOtherStation(ear.from())) {
+            sole = false;
+            next = ear.from();
+            polled = own;
+            tokens = 0;
+            pass(0);
+        } else {
+            mode = IDLE;
         }
-        if (told == INVALID || stillness >= TICKS_USED) {
-            nobodyAnswered();
-            return true;
-        }
-        return false;
+        return true;
     }
 
-    private void nobodyAnswered() {
+    private boolean unansweredLine(int told) {
+        if (told != INVALID && stillness < TICKS_USED) {
+            return false;
+        }
         if (sole) {
             mode = USE;
         } else if (next != own) {
-            passAnew();
+            pass(0);
         } else if (behind(polled) != own) {
             poll(behind(polled));
         } else {
             sole = true;
             mode = USE;
         }
+        return true;
     }
 
     private void poll(int number) {
@@ -333,22 +334,11 @@ public final class PassedToken {
         mode = POLLING;
     }
 
-    /** Gives up the station that was next: who follows is looked for from behind it. */
-    private void pollBehindNext(int tokensThen) {
-        poll(behind(next));
-        next = own;
-        tokens = tokensThen;
-    }
-
-    private void passAnew() {
-        tries = 0;
-        pass();
-        mode = PASSING;
-    }
-
-    private void pass() {
+    private void pass(int triesBefore) {
+        tries = triesBefore;
         send(TYPE_TOKEN, next, noData);
         events = 0;
+        mode = PASSING;
     }
 
     private void sendAnswer(Row answer) {
@@ -423,21 +413,13 @@ public final class PassedToken {
         static final int HEADER_BYTES = 5;
         static final int HEADER_START = 255;
         static final int DATA_START = 65535;
-        private static final int HEADER_MASK = 129;
-        private static final int DATA_MASK = 33800;
-
-        static int withHeaderByte(int c, int b) {
-            return withByte(c, b, HEADER_MASK);
-        }
-
-        static int withDataByte(int c, int b) {
-            return withByte(c, b, DATA_MASK);
-        }
+        static final int HEADER_MASK = 129;
+        static final int DATA_MASK = 33800;
 
         static int ofHeader(Row row, int from) {
             int c = HEADER_START;
             for (int i = 0; i < HEADER_BYTES; i++) {
-                c = withHeaderByte(c, row.at(from + i));
+                c = withByte(c, row.at(from + i), HEADER_MASK);
             }
             return HEADER_START - c;
         }
@@ -445,12 +427,12 @@ public final class PassedToken {
         static int ofData(Row row) {
             int c = DATA_START;
             for (int i = 0; i < row.size(); i++) {
-                c = withDataByte(c, row.at(i));
+                c = withByte(c, row.at(i), DATA_MASK);
             }
             return DATA_START - c;
         }
 
-        private static int withByte(int c, int b, int mask) {
+        static int withByte(int c, int b, int mask) {
             int left = c ^ b;
             for (int i = 0; i < 8; i++) {
                 left = (left & 1) == 1 ? (left >>> 1) ^ mask : left >>> 1;
@@ -532,7 +514,7 @@ public final class PassedToken {
 
         private void takeHeader(int b) {
             header.put(b);
-            check = Check.withHeaderByte(check, b);
+            check = Check.withByte(check, b, Check.HEADER_MASK);
             if (header.size() == Check.HEADER_BYTES) {
                 stage = HEADER_CHECK;
             }
@@ -553,7 +535,7 @@ public final class PassedToken {
 
         private void takeData(int b) {
             data.put(b);
-            check = Check.withDataByte(check, b);
+            check = Check.withByte(check, b, Check.DATA_MASK);
             if (data.size() >= dataBytes()) {
                 stage = LOW_CHECK;
             }
@@ -602,7 +584,7 @@ public final class PassedToken {
         }
 
         int valueOf(int r) {
-            return isGiven(r) ? values[r] : 0;
+            return r >= 0 && r <= RANKS ? values[r] : 0;
         }
 
         boolean takes(int value) {
@@ -687,7 +669,10 @@ public final class PassedToken {
             return i >= 0 && i < things.length ? things[i] : null;
         }
 
-        /** The answer; it has no bytes when there is none. */
+        /**
+         * The answer; it has no bytes when there is none. What takes the data apart moves on behind its
+         * end for bytes that are missing, so that these are seen once all of it has been taken.
+         */
         Row answerTo(Row data) {
             answer.clear();
             if (!isForDesk(data)) {
@@ -699,11 +684,10 @@ public final class PassedToken {
             at = HEAD_BYTES;
             if (service != READ && service != WRITE) {
                 begin(96, 9);
-            } else if (!isWellFormed()) {
+            } else if (!takesPlace() || (service == WRITE && !takesWritten()) || at != asked.size()) {
                 begin(96, 4);
             } else {
-                asksFor = thingOf(reference);
-                answerWellFormed(fault());
+                answerWellFormed();
             }
             return answer;
         }
@@ -712,7 +696,9 @@ public final class PassedToken {
             return data.size() >= HEAD_BYTES && data.at(0) == 1 && data.at(1) == 4 && data.at(2) == 0;
         }
 
-        private void answerWellFormed(int fault) {
+        private void answerWellFormed() {
+            asksFor = thingOf(reference);
+            int fault = fault();
             if (fault != NO_FAULT) {
                 begin(80, service);
                 answer.put(MARK_BINARY);
@@ -724,7 +710,10 @@ public final class PassedToken {
                 begin(32, WRITE);
             } else {
                 begin(48, READ);
-                tellWhatIsRead();
+                tellPlace();
+                answer.put(MARK_OPEN);
+                tellProperty();
+                answer.put(MARK_CLOSE);
             }
         }
 
@@ -736,60 +725,41 @@ public final class PassedToken {
             answer.put(last);
         }
 
-        private boolean isWellFormed() {
-            return takesPlace() && (service == READ || takesWritten()) && at == asked.size();
-        }
-
         private boolean takesPlace() {
-            if (!follows(MARK_REFERENCE, 4)) {
+            if (!follows(MARK_REFERENCE)) {
                 return false;
             }
             reference = nextInt();
-            if (!follows(MARK_PROPERTY, 1)) {
+            if (!follows(MARK_PROPERTY)) {
                 return false;
             }
             property = nextByte();
-            index = NO_INDEX;
-            if (asked.at(at) == MARK_INDEX) {
-                if (!follows(MARK_INDEX, 1)) {
-                    return false;
-                }
-                index = nextByte();
-            }
+            index = follows(MARK_INDEX) ? nextByte() : NO_INDEX;
             return true;
         }
 
         private boolean takesWritten() {
-            if (!follows(MARK_OPEN, 0) || !takesValue() || !follows(MARK_CLOSE, 0)) {
+            if (!follows(MARK_OPEN)) {
                 return false;
             }
-            rank = RANKS;
-            if (asked.at(at) == MARK_RANK) {
-                if (!follows(MARK_RANK, 1)) {
-                    return false;
-                }
-                rank = nextByte();
+            writtenMark = nextByte();
+            if (writtenMark == MARK_INT) {
+                writtenValue = nextInt();
+            } else if (writtenMark == MARK_BINARY) {
+                writtenValue = nextByte();
+            } else if (writtenMark != MARK_NONE) {
+                return false;
             }
+            if (!follows(MARK_CLOSE)) {
+                return false;
+            }
+            rank = follows(MARK_RANK) ? nextByte() : RANKS;
             return rank >= 1 && rank <= RANKS;
         }
 
-        private boolean takesValue() {
-            writtenMark = asked.at(at);
-            writtenValue = 0;
-            if (follows(MARK_INT, 4)) {
-                writtenValue = nextInt();
-                return true;
-            }
-            if (follows(MARK_BINARY, 1)) {
-                writtenValue = nextByte();
-                return true;
-            }
-            return follows(MARK_NONE, 0);
-        }
-
-        /** Steps over a mark if it comes next with so many bytes behind it. */
-        private boolean follows(int mark, int bytes) {
-            if (asked.at(at) != mark || asked.size() - at - 1 < bytes) {
+        /** Steps over a mark if it comes next. */
+        private boolean follows(int mark) {
+            if (asked.at(at) != mark) {
                 return false;
             }
             at++;
@@ -805,8 +775,9 @@ public final class PassedToken {
         private int nextInt() {
             int value = 0;
             for (int i = 0; i < 4; i++) {
-                value = (value << 8) | nextByte();
+                value = (value << 8) | asked.at(at + i);
             }
+            at += 4;
             return value;
         }
 
@@ -857,7 +828,7 @@ public final class PassedToken {
             }
         }
 
-        private void tellWhatIsRead() {
+        private void tellPlace() {
             answer.put(MARK_REFERENCE);
             answer.putInt(reference);
             answer.put(MARK_PROPERTY);
@@ -866,9 +837,6 @@ public final class PassedToken {
                 answer.put(MARK_INDEX);
                 answer.put(index);
             }
-            answer.put(MARK_OPEN);
-            tellProperty();
-            answer.put(MARK_CLOSE);
         }
 
         private void tellProperty() {

@@ -161,6 +161,11 @@ public final class AnswerTest {
         answer(x, "rank 17 of a default", write(INT_0, 104, 62, 68, 0, 0, 0, 7, 63, 73, 17), reject);
         answer(x, "more behind the rank", write(INT_0, 85, 62, 68, 0, 0, 0, 7, 63, 73, 2, 0), reject);
         answer(x, "no value", write(INT_0, 85, 62, 63), reject);
+        int[] noMarks = {1, 12, 33, 67, 69, 144, 146, 196, 255};
+        for (int mark : noMarks) {
+            answer(x, "mark " + mark + " of no value", write(INT_0, 85, 62, mark, 63), reject);
+            answer(x, "mark " + mark + " and a byte", write(BINARY_0, 85, 62, mark, 1, 63), reject);
+        }
         answer(x, "two values", write(INT_0, 85, 62, 0, 0, 63), reject);
         answer(x, "a short int", write(INT_0, 85, 62, 68, 0, 0, 7, 63), reject);
         answer(x, "a malformed one of no thing", read(bytes(12, 9, 9, 9, 9), 85, 0), reject);
@@ -169,7 +174,9 @@ public final class AnswerTest {
 
     private static void faults() {
         PassedToken x = new PassedToken(3, 7);
-        int[][] noThings = {{12, 0, 128, 0, 2}, {12, 0, 0, 0, 0}, {12, 0, 192, 0, 0}, {12, 1, 0, 0, 2}, {12, 1, 64, 0, 0}};
+        int[][] noThings = {
+            {12, 0, 128, 0, 2}, {12, 0, 0, 0, 0}, {12, 0, 192, 0, 0}, {12, 1, 0, 0, 2}, {12, 1, 64, 0, 0},
+        };
         for (int[] place : noThings) {
             answer(x, "no thing", read(place, 85), fault(12, 1, 31));
         }

@@ -140,17 +140,34 @@ public final class StateTest {
         forgetsTokens();
     }
 
-    /** TOKENS is 0 when the token is made anew, so three more are passed before a poll. */
+    /** TOKENS is 0 when the token is made anew or given up, so a sole one has all its uses. */
     private static void forgetsTokens() {
-        PassedToken x = Bench.idle(3, 7, 5);
-        for (int i = 0; i < 3; i++) {
-            token(x);
-            Bench.hearAll(x, FIVE);
-        }
+        PassedToken x = Bench.idle(3, 4, 0);
+        token(x);
+        Bench.hearAll(x, FIVE);
+        token(x);
+        Bench.hearAll(x, FIVE);
         Bench.rest(x, 530);
-        Bench.rest(x, 140);
-        BENCH.due("sole, with uses that send nothing", x.state() & 2048, 2048);
-        BENCH.dueState("sole polls", x, 6, 3, 4);
+        x.quiet(60);
+        BENCH.due("uses of a token made anew", uses(x), 4);
+        PassedToken y = Bench.idle(3, 4, 4);
+        token(y);
+        Bench.hearAll(y, FIVE);
+        token(y);
+        y.quiet(40);
+        BENCH.dueState("given up", y, 6, 3, 0);
+        y.quiet(40);
+        BENCH.due("uses of a token given up", uses(y), 4);
+        PassedToken z = Bench.idle(3, 4, 0);
+        token(z);
+        Bench.hearAll(z, FIVE);
+        Bench.rest(z, 530);
+        Bench.hearAll(z, Bench.frame(2, 3, 1));
+        for (int i = 0; i < 3; i++) {
+            Bench.hearAll(z, FIVE);
+            token(z);
+            BENCH.dueState("tokens for one that is found", z, 4, 1, 3);
+        }
     }
 
     private static void pollingIsAnswered() {
