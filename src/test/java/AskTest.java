@@ -13,12 +13,12 @@ public final class AskTest {
         BENCH.end();
     }
 
-    private static int[] token(PassedToken x) {
+    private static int[] token(Station x) {
         return Bench.upon(x, Bench.frame(0, 3, 2));
     }
 
     private static void requestIsSent() {
-        PassedToken x = new PassedToken(3, 7);
+        Station x = new Station(3, 7);
         BENCH.due("ask", x.ask(5, 77, 2, 1, 85), true);
         BENCH.due("state() while it waits", x.state(), 4096 + 3 * 136);
         BENCH.due("silence() behind ask", x.silence(), 0);
@@ -27,7 +27,7 @@ public final class AskTest {
     }
 
     private static void laterTakesThePlace() {
-        PassedToken x = new PassedToken(3, 7);
+        Station x = new Station(3, 7);
         x.ask(5, 77, 2, 1, 85);
         BENCH.due("ask again", x.ask(0, 1, 4, 2, 104), true);
         BENCH.due("refused", x.ask(3, 9, 9, 9, 9), false);
@@ -44,7 +44,7 @@ public final class AskTest {
             {Integer.MIN_VALUE, 0, 0, 0, 0}, {5, Integer.MAX_VALUE, 0, 0, 0},
         };
         for (int[] w : wrong) {
-            PassedToken x = new PassedToken(3, 7);
+            Station x = new Station(3, 7);
             String call = "ask" + Arrays.toString(w);
             BENCH.due(call, x.ask(w[0], w[1], w[2], w[3], w[4]), false);
             BENCH.due("state() behind " + call, x.state(), 3 * 136);
@@ -53,17 +53,17 @@ public final class AskTest {
     }
 
     private static void edges() {
-        PassedToken x = new PassedToken(3, 7);
+        Station x = new Station(3, 7);
         BENCH.due("all highest", x.ask(7, 255, 1023, 4194303, 255), true);
         BENCH.dueBytes("all highest", token(x),
             Bench.frame(5, 7, 3, 1, 4, 0, 4, 255, 12, 12, 255, 255, 255, 255, 25, 255));
-        PassedToken y = new PassedToken(3, 7);
+        Station y = new Station(3, 7);
         BENCH.due("all lowest", y.ask(0, 0, 0, 0, 0), true);
         BENCH.dueBytes("all lowest", token(y), Bench.frame(5, 0, 3, 1, 4, 0, 4, 0, 12, 12, 0, 0, 0, 0, 25, 0));
     }
 
     private static void waitsNoMore() {
-        PassedToken x = Bench.waiting(3, 7, 5);
+        Station x = Bench.waiting(3, 7, 5);
         Bench.rest(x, 255);
         BENCH.dueBytes("it is not asked again", Bench.sentBytes(x), Bench.frame(0, 5, 3));
         Bench.hearAll(x, 1, 2, 3, 4, 5);

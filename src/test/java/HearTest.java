@@ -22,7 +22,7 @@ public final class HearTest {
     }
 
     private static void wrongBytes() {
-        PassedToken x = new PassedToken(3, 7);
+        Station x = new Station(3, 7);
         Bench.hearAll(x, Bench.first(POLL_TO_3, 7));
         x.quiet(2);
         BENCH.due("hear(-1)", x.hear(-1), -1);
@@ -34,7 +34,7 @@ public final class HearTest {
     }
 
     private static void repliesToPolls() {
-        PassedToken x = new PassedToken(3, 7);
+        Station x = new Station(3, 7);
         for (int i = 0; i < 7; i++) {
             BENCH.due("byte " + i + " of a poll", x.hear(POLL_TO_3[i]), 0);
         }
@@ -47,12 +47,12 @@ public final class HearTest {
 
     /** Checks known from elsewhere: 0 16 5 0 0 has 140, and the text 123456789 has 110 144. */
     private static void knownChecks() {
-        PassedToken x = Bench.polling(3, 7);
+        Station x = Bench.polling(3, 7);
         Bench.hearAll(x, 85, 255, 0, 16, 5, 0, 0, 140);
         BENCH.dueState("a right check", x, POLLING, 3, 4);
         Bench.hearAll(x, 85, 255, 0, 16, 5, 0, 0, 141);
         BENCH.dueState("a wrong check", x, POLLING, 3, 5);
-        PassedToken y = new PassedToken(3, 7);
+        Station y = new Station(3, 7);
         int[] data = {49, 50, 51, 52, 53, 54, 55, 56, 57};
         Bench.hearAll(y, Bench.header(3, 3, 9, 9));
         Bench.hearAll(y, data);
@@ -63,7 +63,7 @@ public final class HearTest {
     }
 
     private static void echoes() {
-        PassedToken x = new PassedToken(0, 1);
+        Station x = new Station(0, 1);
         BENCH.dueBytes("echo of nothing", Bench.upon(x, Bench.frame(3, 0, 1)), Bench.frame(4, 1, 0));
         int[] data = new int[40];
         for (int i = 0; i < 40; i++) {
@@ -78,7 +78,7 @@ public final class HearTest {
     }
 
     private static void beginsOfFrames() {
-        PassedToken x = new PassedToken(3, 7);
+        Station x = new Station(3, 7);
         int[] rest = Arrays.copyOfRange(POLL_TO_3, 1, 8);
         BENCH.due("no 85", Bench.hearAll(x, rest), 0);
         BENCH.due("85 85 85 255", Bench.hearAll(x, Bench.join(new int[] {85, 85}, POLL_TO_3)), 8);
@@ -90,11 +90,11 @@ public final class HearTest {
     }
 
     private static void whoIsMeant() {
-        PassedToken x = new PassedToken(3, 7);
+        Station x = new Station(3, 7);
         BENCH.due("poll to all", Bench.hearAll(x, Bench.frame(1, 255, 9)), 0);
         BENCH.due("poll to another", Bench.hearAll(x, Bench.frame(1, 2, 9)), 0);
         BENCH.due("token to all", Bench.hearAll(x, Bench.frame(0, 255, 2)), 0);
-        PassedToken y = Bench.polling(3, 7);
+        Station y = Bench.polling(3, 7);
         Bench.hearAll(y, Bench.frame(2, 5, 4));
         BENCH.dueState("one to others is neither", y, POLLING, 3, 4);
         Bench.hearAll(y, Bench.frame(2, 5, 4, 1, 2, 3));
@@ -106,7 +106,7 @@ public final class HearTest {
     private static void invalidFrames() {
         int[] good = Bench.frame(6, 3, 5, 1, 2, 3);
         for (int place = 2; place < 13; place++) {
-            PassedToken x = Bench.waiting(3, 7, 5);
+            Station x = Bench.waiting(3, 7, 5);
             int told = place <= 7 ? 7 : 12;
             int[] bad = Bench.spoilt(good, place);
             BENCH.due("before it is told, byte " + place, Bench.hearAll(x, Bench.first(bad, told)), 0);
@@ -114,32 +114,32 @@ public final class HearTest {
             BENCH.dueNumber("wrong byte " + place, x, DONE_AND_PASSED);
             BENCH.due("no reply, byte " + place, x.replied(), 0);
         }
-        PassedToken y = new PassedToken(3, 7);
+        Station y = new Station(3, 7);
         Bench.hearAll(y, Bench.spoilt(POLL_TO_3, 7));
         BENCH.due("a frame right behind an invalid one", Bench.hearAll(y, POLL_TO_3), 8);
-        PassedToken z = Bench.waiting(3, 7, 5);
+        Station z = Bench.waiting(3, 7, 5);
         Bench.hearAll(z, Bench.spoilt(Bench.frame(6, 2, 5, 1, 2, 3), 9));
         BENCH.dueNumber("wrong data check of one to others", z, DONE_AND_PASSED);
     }
 
     private static void lengths() {
-        PassedToken x = Bench.waiting(3, 7, 5);
+        Station x = Bench.waiting(3, 7, 5);
         int[] header = Bench.header(6, 3, 5, 41);
         BENCH.due("41 bytes, before the check", Bench.hearAll(x, Bench.first(header, 7)), 0);
         BENCH.due("41 bytes, by the check", x.hear(header[7]), 8);
-        PassedToken y = Bench.waiting(3, 7, 5);
+        Station y = Bench.waiting(3, 7, 5);
         Bench.hearAll(y, Bench.header(6, 3, 5, 256));
         BENCH.dueNumber("256 bytes", y, DONE_AND_PASSED);
-        PassedToken z = Bench.waiting(3, 7, 5);
+        Station z = Bench.waiting(3, 7, 5);
         Bench.hearAll(z, Bench.frame(6, 3, 5, new int[40]));
         BENCH.due("40 bytes", z.replied(), 40);
-        PassedToken w = Bench.waiting(3, 7, 5);
+        Station w = Bench.waiting(3, 7, 5);
         Bench.hearAll(w, Bench.header(6, 2, 5, 41));
         BENCH.dueNumber("41 bytes to others", w, DONE_AND_PASSED);
     }
 
     private static void sendingDoesNotDisturb() {
-        PassedToken x = Bench.polling(3, 7);
+        Station x = Bench.polling(3, 7);
         x.hear(85);
         x.quiet(20);
         BENCH.dueState("it has polled on", x, POLLING, 3, 5);

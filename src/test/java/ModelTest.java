@@ -3,24 +3,25 @@ import java.util.Random;
 /** Promises 1 to 11: long runs of calls, chosen by fixed numbers, held against the Model. */
 public final class ModelTest {
     private static final Bench BENCH = new Bench("ModelTest");
-    private static final int RUNS = 3000;
-    private static final int CALLS = 500;
+    private static final int RUNS = 12000;
+    // What looking at all that an object tells takes at most, and one step before it.
+    private static final int LAST_LOOK = 170;
     private static final int[] PROPERTIES = {75, 85, 87, 104, 85, 87, 76};
     private static final int[] STILLNESS = {2, 4, 6, 9};
     private static final int[] MARKS = {0, 12, 15, 25, 41, 62, 63, 68, 73, 145};
 
     private final int run;
     private final Random chance;
-    private final PassedToken x;
+    private final Station x;
     private final Model model;
-    private int calls = 0;
+    private int steps = 0;
 
     private ModelTest(int run) {
         this.run = run;
         chance = new Random(run);
         int station = chance.nextInt(20) - 2;
         int most = chance.nextInt(4) == 0 ? chance.nextInt(20) - 2 : chance.nextInt(5) + 1;
-        x = new PassedToken(station, most);
+        x = new Station(station, most);
         model = new Model(station, most);
     }
 
@@ -37,7 +38,7 @@ public final class ModelTest {
 
     private void walk(boolean[] seen) {
         int stillness = STILLNESS[chance.nextInt(STILLNESS.length)];
-        while (calls < CALLS) {
+        while (goesOn()) {
             int choice = chance.nextInt(20);
             if (chance.nextInt(10) < stillness) {
                 quiet(ticks());
@@ -52,6 +53,11 @@ public final class ModelTest {
             }
             seen[model.state] = true;
         }
+        lookAtAll();
+    }
+
+    private boolean goesOn() {
+        return x.callsLeft() > LAST_LOOK;
     }
 
     private int ticks() {
@@ -77,9 +83,9 @@ public final class ModelTest {
         }
         int end = chance.nextInt(12) == 0 ? chance.nextInt(bytes.length) : bytes.length;
         boolean gaps = chance.nextInt(10) == 0;
-        for (int i = 0; i < end; i++) {
+        for (int i = 0; i < end && goesOn(); i++) {
             hear(bytes[i]);
-            if (gaps && chance.nextInt(4) == 0) {
+            if (gaps && goesOn() && chance.nextInt(4) == 0) {
                 quiet(1 + chance.nextInt(4));
             }
         }
@@ -167,15 +173,40 @@ public final class ModelTest {
     }
 
     private void same(String call, int got, int want) {
-        calls++;
-        String what = "run " + run + ", call " + calls + ", " + call;
-        BENCH.due(what, got, want);
-        BENCH.due(what + ", state()", x.state(), model.stateAnswer());
-        BENCH.due(what + ", silence()", x.silence(), Math.min(1000, model.silence));
-        BENCH.dueBytes(what + ", sent()", Bench.sentBytes(x), Model.ints(model.sent));
-        BENCH.dueBytes(what + ", reply()", Bench.replyBytes(x), Model.ints(model.reply));
-        for (int thing = -1; thing <= 4; thing++) {
-            BENCH.due(what + ", present(" + thing + ")", x.present(thing), model.present(thing));
+        steps++;
+        BENCH.due(step(call), got, want);
+        BENCH.due(step(call + ", state()"), x.state(), model.stateAnswer());
+        switch (chance.nextInt(8)) {
+            case 0: lookAtSilence(); break;
+            case 1: lookAtSent(); break;
+            case 2: lookAtPresent(chance.nextInt(4)); break;
+            default: break;
         }
+    }
+
+    private String step(String what) {
+        return "run " + run + ", step " + steps + ", " + what;
+    }
+
+    private void lookAtAll() {
+        lookAtSilence();
+        lookAtSent();
+        BENCH.due(step("replied()"), x.replied(), model.reply.size());
+        BENCH.dueBytes(step("reply()"), Bench.replyBytes(x), Model.ints(model.reply));
+        for (int thing = -1; thing <= 4; thing++) {
+            lookAtPresent(thing);
+        }
+    }
+
+    private void lookAtSilence() {
+        BENCH.due(step("silence()"), x.silence(), Math.min(1000, model.silence));
+    }
+
+    private void lookAtSent() {
+        BENCH.dueBytes(step("sent()"), Bench.sentBytes(x), Model.ints(model.sent));
+    }
+
+    private void lookAtPresent(int thing) {
+        BENCH.due(step("present(" + thing + ")"), x.present(thing), model.present(thing));
     }
 }

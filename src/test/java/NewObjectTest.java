@@ -27,20 +27,20 @@ public final class NewObjectTest {
     }
 
     private static void station(int station, int most, int own) {
-        PassedToken x = new PassedToken(station, most);
+        Station x = new Station(station, most);
         BENCH.due("state() of " + station + " of " + most, x.state(), 136 * own);
     }
 
     /** The highest station is the highest that can be asked. */
     private static void most(int station, int most, int highest) {
-        PassedToken x = new PassedToken(station, most);
+        Station x = new Station(station, most);
         String call = "ask of station ";
         BENCH.due(call + highest, x.ask(highest, 0, 0, 0, 0), true);
         BENCH.due(call + (highest + 1), x.ask(highest + 1, 0, 0, 0, 0), false);
     }
 
     private static void firstAnswers() {
-        PassedToken x = new PassedToken(2, 4);
+        Station x = new Station(2, 4);
         BENCH.due("BAD", PassedToken.BAD, -1);
         BENCH.due("silence()", x.silence(), 0);
         BENCH.due("replied()", x.replied(), 0);

@@ -12,7 +12,7 @@ public final class QuietTest {
     }
 
     private static void wrongNumbers() {
-        PassedToken x = new PassedToken(3, 7);
+        Station x = new Station(3, 7);
         Bench.hearAll(x, Bench.frame(1, 3, 5));
         x.quiet(1);
         int[] wrong = {0, 101, -1, Integer.MIN_VALUE, Integer.MAX_VALUE};
@@ -26,7 +26,7 @@ public final class QuietTest {
 
     private static void lostTokens() {
         for (int station = 0; station <= 15; station++) {
-            PassedToken x = new PassedToken(station, 15);
+            Station x = new Station(station, 15);
             BENCH.due("ticks before the token is lost", Bench.rest(x, 499), 0);
             BENCH.dueNumber("499 ticks", x, 0);
             if (station > 0) {
@@ -42,7 +42,7 @@ public final class QuietTest {
     }
 
     private static void oneAfterTheOther() {
-        PassedToken x = Bench.polling(3, 15);
+        Station x = Bench.polling(3, 15);
         BENCH.due("19 ticks", x.quiet(19), 0);
         BENCH.due("100 ticks", x.quiet(100), 40);
         BENCH.dueBytes("five polls", Bench.sentBytes(x), Bench.join(Bench.frame(1, 5, 3), Bench.frame(1, 6, 3),
@@ -53,19 +53,19 @@ public final class QuietTest {
     private static void cutOffFrames() {
         int[] frame = Bench.frame(2, 3, 5, 9, 8);
         for (int heard = 2; heard < frame.length; heard++) {
-            PassedToken x = Bench.polling(3, 7);
+            Station x = Bench.polling(3, 7);
             Bench.hearAll(x, Bench.first(frame, heard));
             BENCH.due("3 ticks behind byte " + heard, x.quiet(3), 0);
             BENCH.due("4 ticks behind byte " + heard, x.quiet(1), 8);
             BENCH.dueState("cut off behind byte " + heard, x, 6, 3, 5);
         }
-        PassedToken y = Bench.polling(3, 7);
+        Station y = Bench.polling(3, 7);
         y.hear(85);
         BENCH.due("19 ticks behind 85 alone", y.quiet(19), 0);
-        PassedToken z = Bench.polling(3, 7);
+        Station z = Bench.polling(3, 7);
         Bench.hearAll(z, Bench.frame(2, 2, 5));
         BENCH.due("19 ticks behind a whole frame", z.quiet(19), 0);
-        PassedToken w = Bench.polling(3, 7);
+        Station w = Bench.polling(3, 7);
         for (int b : frame) {
             w.quiet(3);
             w.hear(b);
@@ -74,7 +74,7 @@ public final class QuietTest {
     }
 
     private static void cutOffOnlyOnce() {
-        PassedToken x = new PassedToken(3, 7);
+        Station x = new Station(3, 7);
         int[] poll = Bench.frame(1, 3, 5);
         Bench.hearAll(x, Bench.first(poll, 7));
         x.quiet(4);

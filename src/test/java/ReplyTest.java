@@ -10,7 +10,7 @@ public final class ReplyTest {
     }
 
     private static void aReply() {
-        PassedToken x = Bench.waiting(3, 7, 5);
+        Station x = Bench.waiting(3, 7, 5);
         BENCH.due("replied() before", x.replied(), 0);
         BENCH.due("reply(0) before", x.reply(0), -1);
         BENCH.due("token passed upon the reply", Bench.hearAll(x, Bench.frame(6, 3, 6, 10, 0, 255)), 8);
@@ -24,14 +24,14 @@ public final class ReplyTest {
         BENCH.due("reply(highest)", x.reply(Integer.MAX_VALUE), -1);
     }
 
-    private static void askAgain(PassedToken x) {
+    private static void askAgain(Station x) {
         Bench.hearAll(x, 1, 2, 3, 4, 5);
         x.ask(5, 8, 2, 1, 85);
         Bench.hearAll(x, Bench.frame(0, 3, 5));
     }
 
     private static void latestReply() {
-        PassedToken x = Bench.waiting(3, 7, 5);
+        Station x = Bench.waiting(3, 7, 5);
         Bench.hearAll(x, Bench.frame(6, 3, 5, 1, 2, 3, 4));
         Bench.hearAll(x, Bench.frame(6, 3, 5, 9, 9));
         BENCH.dueBytes("one that nobody waits for", Bench.replyBytes(x), 1, 2, 3, 4);
@@ -53,7 +53,7 @@ public final class ReplyTest {
             Bench.frame(7, 3, 5, 1), Bench.frame(5, 3, 5, 1), Bench.frame(0, 3, 5, 1),
         };
         for (int[] frame : others) {
-            PassedToken x = Bench.waiting(3, 7, 5);
+            Station x = Bench.waiting(3, 7, 5);
             Bench.hearAll(x, frame);
             BENCH.due("replied() behind type " + frame[2] + " to " + frame[3], x.replied(), 0);
         }

@@ -3,7 +3,7 @@ public final class SentTest {
     private static final Bench BENCH = new Bench("SentTest");
 
     public static void main(String[] args) {
-        PassedToken x = new PassedToken(3, 7);
+        Station x = new Station(3, 7);
         BENCH.due("sent(0) of a new object", x.sent(0), -1);
         Bench.hearAll(x, Bench.frame(1, 3, 5));
         int[] want = {85, 255, 2, 5, 3, 0, 0, Bench.headerCheck(2, 5, 3, 0, 0)};
@@ -24,7 +24,7 @@ public final class SentTest {
         BENCH.end();
     }
 
-    private static void othersLeaveIt(PassedToken x, int[] want) {
+    private static void othersLeaveIt(Station x, int[] want) {
         x.hear(256);
         x.hear(-1);
         x.quiet(0);

@@ -3,7 +3,7 @@ public final class SilenceTest {
     private static final Bench BENCH = new Bench("SilenceTest");
 
     public static void main(String[] args) {
-        PassedToken x = new PassedToken(3, 7);
+        Station x = new Station(3, 7);
         BENCH.due("silence() at first", x.silence(), 0);
         x.quiet(1);
         BENCH.due("silence() behind a tick", x.silence(), 1);
@@ -25,7 +25,7 @@ public final class SilenceTest {
     }
 
     private static void sendingEndsIt() {
-        PassedToken x = Bench.polling(3, 7);
+        Station x = Bench.polling(3, 7);
         x.quiet(20);
         BENCH.due("silence() at once behind sending", x.silence(), 0);
         x.quiet(23);
@@ -33,7 +33,7 @@ public final class SilenceTest {
     }
 
     private static void longest() {
-        PassedToken x = new PassedToken(15, 15);
+        Station x = new Station(15, 15);
         Bench.rest(x, 649);
         BENCH.due("silence() behind 649", x.silence(), 649);
         x.quiet(1);

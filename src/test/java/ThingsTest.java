@@ -9,16 +9,16 @@ public final class ThingsTest {
         defaults();
         takingAway();
         refusals();
-        BENCH.due("present(-1)", new PassedToken(0, 1).present(-1), 0);
-        BENCH.due("present(4)", new PassedToken(0, 1).present(4), 0);
-        BENCH.due("present(lowest)", new PassedToken(0, 1).present(Integer.MIN_VALUE), 0);
-        BENCH.due("present(highest)", new PassedToken(0, 1).present(Integer.MAX_VALUE), 0);
+        BENCH.due("present(-1)", new Station(0, 1).present(-1), 0);
+        BENCH.due("present(4)", new Station(0, 1).present(4), 0);
+        BENCH.due("present(lowest)", new Station(0, 1).present(Integer.MIN_VALUE), 0);
+        BENCH.due("present(highest)", new Station(0, 1).present(Integer.MAX_VALUE), 0);
         BENCH.end();
     }
 
     private static void ranksInOrder() {
         for (int thing = 0; thing < 2; thing++) {
-            PassedToken x = new PassedToken(0, 1);
+            Station x = new Station(0, 1);
             for (int r = 16; r >= 0; r--) {
                 BENCH.due("set rank " + r, x.set(thing, r, 100 - r, false), true);
                 BENCH.due("present, rank " + r, x.present(thing), r == 0 ? 99 : 100 - r);
@@ -32,7 +32,7 @@ public final class ThingsTest {
     }
 
     private static void defaults() {
-        PassedToken x = new PassedToken(0, 1);
+        Station x = new Station(0, 1);
         for (int thing = 0; thing < 4; thing++) {
             BENCH.due("set the default", x.set(thing, 0, 1, false), true);
             BENCH.due("present is the default", x.present(thing), 1);
@@ -45,7 +45,7 @@ public final class ThingsTest {
     }
 
     private static void takingAway() {
-        PassedToken x = new PassedToken(0, 1);
+        Station x = new Station(0, 1);
         x.set(3, 0, 1, false);
         x.set(3, 5, 0, false);
         BENCH.due("take away, the value does not matter", x.set(3, 5, 99, true), true);
@@ -59,7 +59,7 @@ public final class ThingsTest {
             {-1, 1, 1}, {4, 1, 1}, {Integer.MIN_VALUE, 1, 1}, {Integer.MAX_VALUE, 1, 1},
             {0, -1, 1}, {0, 17, 1}, {2, -1, 1}, {2, 17, 1}, {1, Integer.MIN_VALUE, 1}, {1, Integer.MAX_VALUE, 1},
         };
-        PassedToken x = new PassedToken(0, 1);
+        Station x = new Station(0, 1);
         for (int[] w : wrong) {
             String call = "set" + Arrays.toString(w);
             BENCH.due(call, x.set(w[0], w[1], w[2], false), false);
